@@ -1,0 +1,108 @@
+import java.lang.reflect.Constructor;
+import java.lang.reflect.Field;
+import java.lang.reflect.Method;
+import java.lang.reflect.Modifier;
+import java.nio.file.Files;
+import java.nio.file.Path;
+import java.util.Arrays;
+import java.util.Set;
+import java.util.TreeSet;
+import java.util.regex.Matcher;
+import java.util.regex.Pattern;
+
+/** The public face just as the document has it, and those rules of LANGUAGE.md that can be seen in the source. */
+public final class FaceTest {
+    private static final String[] FACE = {
+        "write 1", "wipe 0", "fault 0", "lay 0", "minister 2", "step 2", "pass 1", "wax 1", "sand 1", "help 1",
+        "undo 0", "governs 0", "behind 3", "slide 1", "top 1", "topple 1", "plot 3", "hold 2", "cabinet 1", "seen 2",
+        "forget 0", "waxes 1", "grips 1", "likely 4", "century 3", "keep 0", "back 0", "count 1"};
+    private static final String[] FORBIDDEN = {
+        "\\bthrow\\b", "\\bthrows\\b", "\\btry\\b", "\\bcatch\\b", "\\bsynchronized\\b", "\\bassert\\b", "->", "::",
+        "\\bpackage\\b", "\\bString\\.format\\b", "\\bSystem\\.(?!arraycopy\\b)", "Exact\\b", "\\bRandom\\b",
+        "\\bObject\\b", "\\bequals\\b", "\\bhashCode\\b", "\\btoString\\b", "\\binstanceof\\b", "\\bwhile\\s*\\(\\s*true",
+        "^import (?!java\\.util\\.Arrays;)"};
+
+    private static final Check check = new Check();
+
+    public static void main(String[] args) throws Exception {
+        constants();
+        face();
+        nestedClasses();
+        source(Files.readString(Path.of(args.length > 0 ? args[0] : "src/main/java/BannisterCabinet.java")));
+        check.end();
+    }
+
+    private static void constants() throws Exception {
+        check.part("constants");
+        check.due("BAD", BannisterCabinet.BAD, -1);
+        check.due("NO", BannisterCabinet.NO, -2);
+        check.due("FULL", BannisterCabinet.FULL, -3);
+        check.due("NONE", BannisterCabinet.NONE, -4);
+        int open = 0;
+        for (Field field : BannisterCabinet.class.getDeclaredFields()) {
+            int modifiers = field.getModifiers();
+            open += Modifier.isPrivate(modifiers) ? 0 : 1;
+            check.due(field.getName() + " is final if static",
+                Modifier.isStatic(modifiers) && !Modifier.isFinal(modifiers) ? 1 : 0, 0);
+        }
+        check.due("fields that are not private", open, 4);
+    }
+
+    private static void face() {
+        check.part("face");
+        Class<?> face = BannisterCabinet.class;
+        check.due("public and final", face.getModifiers(), Modifier.PUBLIC | Modifier.FINAL);
+        Constructor<?>[] constructors = face.getDeclaredConstructors();
+        check.due("constructors", constructors.length, 1);
+        check.due("public constructor", constructors[0].getModifiers(), Modifier.PUBLIC);
+        check.due("parameters of it", constructors[0].getParameterCount(), 0);
+        Set<String> open = new TreeSet<>();
+        Set<String> hidden = new TreeSet<>();
+        for (Method method : face.getDeclaredMethods()) {
+            if (Modifier.isPrivate(method.getModifiers())) {
+                hidden.add(method.getName());
+                continue;
+            }
+            open.add(method.getName() + " " + method.getParameterCount());
+            check.due(method + " is public", method.getModifiers(), Modifier.PUBLIC);
+            check.due(method + " is of int", takesAndAnswersInt(method) ? 1 : 0, 1);
+        }
+        check.due("methods " + open, open.equals(new TreeSet<>(Arrays.asList(FACE))) ? 1 : 0, 1);
+        for (String call : FACE) {
+            check.due("private " + call, hidden.contains(call.split(" ")[0]) ? 1 : 0, 0);
+        }
+    }
+
+    private static boolean takesAndAnswersInt(Method method) {
+        return method.getReturnType() == int.class
+            && Arrays.stream(method.getParameterTypes()).allMatch(type -> type == int.class);
+    }
+
+    private static void nestedClasses() {
+        check.part("classes inside");
+        Set<String> calls = new TreeSet<>();
+        for (String call : FACE) {
+            calls.add(call.split(" ")[0]);
+        }
+        Class<?>[] inside = BannisterCabinet.class.getDeclaredClasses();
+        check.due("at most twelve with the outer one", inside.length < 12 ? 1 : 0, 1);
+        for (Class<?> nested : inside) {
+            int modifiers = nested.getModifiers();
+            check.due(nested + " is static", Modifier.isStatic(modifiers) ? 1 : 0, 1);
+            check.due(nested + " is not open", modifiers & (Modifier.PUBLIC | Modifier.PROTECTED), 0);
+            for (Method method : nested.getDeclaredMethods()) {
+                check.due(method + " has a name of the face", calls.contains(method.getName()) ? 1 : 0, 0);
+            }
+        }
+    }
+
+    private static void source(String source) {
+        check.part("source");
+        String code = source.replaceAll("(?s)/\\*.*?\\*/", "").replaceAll("//[^\n]*", "").replaceAll("\"[^\"\n]*\"", "\"\"");
+        for (String forbidden : FORBIDDEN) {
+            Matcher matcher = Pattern.compile(forbidden, Pattern.MULTILINE).matcher(code);
+            check.due(forbidden, matcher.find() ? 1 : 0, 0);
+        }
+        check.due("texts joined by +", Pattern.compile("\"\\s*\\+|\\+\\s*\"").matcher(code).find() ? 1 : 0, 0);
+    }
+}
