@@ -569,7 +569,7 @@ public final class BannisterCabinet {
         }
 
         private boolean takeKnob() {
-            if (numbersRead != 1 || !plan.hasStep(numbers[0])) {
+            if (!tellsOneStep()) {
                 return false;
             }
             plan.knobs |= 1 << numbers[0];
@@ -577,11 +577,15 @@ public final class BannisterCabinet {
         }
 
         private boolean takeTurning() {
-            if (numbersRead != 1 || !plan.hasStep(numbers[0])) {
+            if (!tellsOneStep()) {
                 return false;
             }
             plan.turns |= 1 << numbers[0];
             return true;
+        }
+
+        private boolean tellsOneStep() {
+            return numbersRead == 1 && plan.hasStep(numbers[0]);
         }
 
         private boolean takeMinister() {

@@ -92,6 +92,7 @@ public final class ActsTest {
         year("s8;w6,9;m0,6,0;", 1, 8);
         year("s8;w6,9;m1,6,0;", 3, 8);
         year("s8;w6,9;m2,6,0;", 1, 8);
+        year("s8;w6,8;m1,6,0;", 4, 7);
         // SPEED 2, 5, 3, 1, -1: of two STEPS that he leaves 1 is gone
         year("s8;w6,2;w5,5;m0,6,0;", 2, 5);
         // SPEED 2 and 0: it has to be above 0
@@ -205,6 +206,9 @@ public final class ActsTest {
         check.due("count(3)", x.count(3), 1);
         check.due("step(3, 0)", x.step(3, 0), 6);
         check.due("count(6)", x.count(6), 3);
+        BannisterCabinet poor = check.laid("s4;w3,8;f2;m0,0,9;");
+        check.due("sand(3) for the last FUNDS", poor.sand(3), 6);
+        check.due("count(3)", poor.count(3), 0);
         for (int s : new int[] {-1, 4, Integer.MAX_VALUE}) {
             check.due("sand(" + s + ")", x.sand(s), Check.BAD);
         }

@@ -125,6 +125,8 @@ public final class ForesightTest {
         plotIs("s5;w3,8;m0,3,8;m0,2,9;", 1, 1, 1, 3);
         plotIs("s5;w4,7;m3,4,5;m0,4,9;", 1, 1, 2, 4);
         plotIs("s5;w4,7;m3,4,6;m0,4,9;", 1, 1, Check.NONE, Check.NONE);
+        plotIs("s5;m0,3,8;m0,2,9;", 1, 1, 9, 3);
+        plotIs("s5;m0,0,2;m0,0,9;", 1, 1, 3, 0);
         plotIs(SLIPS_IN_THE_THIRD, 1, 3, 0, Check.NONE);
         plotIs(SLIPS_IN_THE_THIRD, 0, 4, 0, Check.NONE);
     }
@@ -158,6 +160,7 @@ public final class ForesightTest {
         holdIs(SLIPS_IN_THE_THIRD, 3, 1, 4);
         // behind the fourth he governs again, but not behind each
         holdIs(SLIPS_IN_THE_THIRD, 4, 1, 4);
+        holdIs("s5;w0,5;m0,0,0;m0,0,9;", 1, 3, 0);
         holdIs("s5;m0,0,0;", 9, 0, Check.NONE);
     }
 
@@ -267,6 +270,7 @@ public final class ForesightTest {
         likelyIs(x, 1, 2, 3, 21, 100);
         likelyIs(x, 0, 0, 3, 1, 1);
         likelyIs(x, 1, 0, 3, 0, 1);
+        likelyIs(check.laid("s5;m0,4,2;m0,3,9;"), 1, 1, 10, 0, 1);
         // 9 of WAX at most: by 10 he would be lower than the second
         x = check.laid("s16;w15,8;m0,15,1;m0,10,9;");
         likelyIs(x, 0, 1, 10, 1, 1);

@@ -99,16 +99,18 @@ public final class ModelTest {
     private static String text(Random random) {
         int steps = 3 + random.nextInt(14);
         int ministers = 1 + random.nextInt(7);
+        // at times all are low, so that what STEP 0 does counts
+        int highest = random.nextInt(4) == 0 ? 2 : steps;
         StringBuilder text = new StringBuilder();
         if (steps != 10 || random.nextBoolean()) {
             text.append('s').append(steps).append(';');
         }
         int items = random.nextInt(12);
         for (int i = 0; i < items; i++) {
-            item(random, text, steps);
+            item(random, text, random.nextInt(3) == 0 ? highest : steps);
         }
         for (int i = 0; i < ministers; i++) {
-            text.append('m').append(random.nextInt(4)).append(',').append(random.nextInt(steps)).append(',')
+            text.append('m').append(random.nextInt(4)).append(',').append(random.nextInt(highest)).append(',')
                 .append(random.nextInt(10)).append(';');
         }
         if (random.nextInt(6) == 0) {
