@@ -16,11 +16,13 @@ public final class FaceTest {
         "write 1", "wipe 0", "fault 0", "lay 0", "minister 2", "step 2", "pass 1", "wax 1", "sand 1", "help 1",
         "undo 0", "governs 0", "behind 3", "slide 1", "top 1", "topple 1", "plot 3", "hold 2", "cabinet 1", "seen 2",
         "forget 0", "waxes 1", "grips 1", "likely 4", "century 3", "keep 0", "back 0", "count 1"};
+    /** What no part of the source may hold, by rules 2, 4, 6, 9 and 13. */
     private static final String[] FORBIDDEN = {
-        "\\bthrow\\b", "\\bthrows\\b", "\\btry\\b", "\\bcatch\\b", "\\bsynchronized\\b", "\\bassert\\b", "->", "::",
-        "\\bpackage\\b", "\\bString\\.format\\b", "\\bSystem\\.(?!arraycopy\\b)", "Exact\\b", "\\bRandom\\b",
-        "\\bObject\\b", "\\bequals\\b", "\\bhashCode\\b", "\\btoString\\b", "\\binstanceof\\b", "\\bwhile\\s*\\(\\s*true",
-        "^import (?!java\\.util\\.Arrays;)"};
+        "\\bthrow\\b", "\\bthrows\\b", "\\btry\\b", "\\bcatch\\b", "\\bsynchronized\\b", "\\bassert\\b", "::",
+        "^(?!\\s*(case|default)\\b).*->", "^package\\b", "\\bString\\.\\w", "\\bSystem\\.(?!arraycopy\\b)",
+        "Exact\\b", "\\bRandom\\b", "\\bThread\\b", "\\bObject\\b", "\\bhashCode\\b", "\\bwhile\\s*\\(\\s*true",
+        "\\bfor\\s*\\(\\s*;\\s*;", "^import (?!java\\.util\\.(Arrays|ArrayList|List|Iterator);)"};
+    private static final int MOST_CLASSES = 12, MOST_FIELDS = 20, MOST_PARAMETERS = 7, MOST_LINES = 60;
 
     private static final Check check = new Check();
 
@@ -40,10 +42,7 @@ public final class FaceTest {
         check.due("NONE", BannisterCabinet.NONE, -4);
         int open = 0;
         for (Field field : BannisterCabinet.class.getDeclaredFields()) {
-            int modifiers = field.getModifiers();
-            open += Modifier.isPrivate(modifiers) ? 0 : 1;
-            check.due(field.getName() + " is final if static",
-                Modifier.isStatic(modifiers) && !Modifier.isFinal(modifiers) ? 1 : 0, 0);
+            open += Modifier.isPrivate(field.getModifiers()) ? 0 : 1;
         }
         check.due("fields that are not private", open, 4);
     }
@@ -80,29 +79,57 @@ public final class FaceTest {
 
     private static void nestedClasses() {
         check.part("classes inside");
-        Set<String> calls = new TreeSet<>();
-        for (String call : FACE) {
-            calls.add(call.split(" ")[0]);
-        }
         Class<?>[] inside = BannisterCabinet.class.getDeclaredClasses();
-        check.due("at most twelve with the outer one", inside.length < 12 ? 1 : 0, 1);
+        check.due("at most twelve with the outer one", inside.length < MOST_CLASSES ? 1 : 0, 1);
+        sizes(BannisterCabinet.class);
         for (Class<?> nested : inside) {
             int modifiers = nested.getModifiers();
             check.due(nested + " is static", Modifier.isStatic(modifiers) ? 1 : 0, 1);
-            check.due(nested + " is not open", modifiers & (Modifier.PUBLIC | Modifier.PROTECTED), 0);
+            check.due(nested + " is open", modifiers & (Modifier.PUBLIC | Modifier.PROTECTED), 0);
+            sizes(nested);
             for (Method method : nested.getDeclaredMethods()) {
-                check.due(method + " has a name of the face", calls.contains(method.getName()) ? 1 : 0, 0);
+                boolean hides = Modifier.isPrivate(method.getModifiers()) && isOfTheFace(method.getName());
+                check.due(method + " is private with a name of the face", hides ? 1 : 0, 0);
             }
+        }
+    }
+
+    private static boolean isOfTheFace(String name) {
+        return Arrays.stream(FACE).anyMatch(call -> call.split(" ")[0].equals(name));
+    }
+
+    private static void sizes(Class<?> type) {
+        int fields = 0;
+        for (Field field : type.getDeclaredFields()) {
+            boolean isStatic = Modifier.isStatic(field.getModifiers());
+            fields += isStatic ? 0 : 1;
+            check.due(field + " is static, not final", isStatic && !Modifier.isFinal(field.getModifiers()) ? 1 : 0, 0);
+        }
+        check.due(type + " has fields to twenty", fields <= MOST_FIELDS ? 1 : 0, 1);
+        for (Method method : type.getDeclaredMethods()) {
+            check.due(method + " has parameters to seven", method.getParameterCount() <= MOST_PARAMETERS ? 1 : 0, 1);
         }
     }
 
     private static void source(String source) {
         check.part("source");
-        String code = source.replaceAll("(?s)/\\*.*?\\*/", "").replaceAll("//[^\n]*", "").replaceAll("\"[^\"\n]*\"", "\"\"");
+        String withoutRemarks = source.replaceAll("(?s)/\\*.*?\\*/", "").replaceAll("//[^\n]*", "");
+        String code = withoutRemarks.replaceAll("\"[^\"\n]*\"", "\"\"");
         for (String forbidden : FORBIDDEN) {
             Matcher matcher = Pattern.compile(forbidden, Pattern.MULTILINE).matcher(code);
             check.due(forbidden, matcher.find() ? 1 : 0, 0);
         }
         check.due("texts joined by +", Pattern.compile("\"\\s*\\+|\\+\\s*\"").matcher(code).find() ? 1 : 0, 0);
+        lengths(source);
+    }
+
+    /** No method is longer than some sixty lines: it ends where a } stands just below its first letter. */
+    private static void lengths(String source) {
+        String block = "^( +)[^\\s/*}].*\\) \\{\\n(?s:.*?)^\\1\\}";
+        Matcher method = Pattern.compile(block, Pattern.MULTILINE).matcher(source);
+        while (method.find()) {
+            String[] lines = method.group().split("\n");
+            check.due("lines of " + lines[0].trim() + " above sixty", Math.max(0, lines.length - MOST_LINES), 0);
+        }
     }
 }
