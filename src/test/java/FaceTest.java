@@ -22,6 +22,7 @@ public final class FaceTest {
         "^(?!\\s*(case|default)\\b).*->", "^package\\b", "\\bString\\.\\w", "\\bSystem\\.(?!arraycopy\\b)",
         "Exact\\b", "\\bRandom\\b", "\\bThread\\b", "\\bObject\\b", "\\bhashCode\\b", "\\bwhile\\s*\\(\\s*true",
         "\\bfor\\s*\\(\\s*;\\s*;", "^import (?!java\\.util\\.(Arrays|ArrayList|List|Iterator);)"};
+    private static final int[] ANY = {Integer.MIN_VALUE, -1, 0, 2, 6, 16, 32, 40, 9999, Integer.MAX_VALUE};
     private static final int MOST_CLASSES = 12, MOST_FIELDS = 20, MOST_PARAMETERS = 7, MOST_LINES = 60;
 
     private static final Check check = new Check();
@@ -30,6 +31,7 @@ public final class FaceTest {
         constants();
         face();
         nestedClasses();
+        neverThrows();
         source(Files.readString(Path.of(args.length > 0 ? args[0] : "src/main/java/BannisterCabinet.java")));
         check.end();
     }
@@ -109,6 +111,39 @@ public final class FaceTest {
         for (Method method : type.getDeclaredMethods()) {
             check.due(method + " has parameters to seven", method.getParameterCount() <= MOST_PARAMETERS ? 1 : 0, 1);
         }
+    }
+
+    /** Rule 7: no call throws, for any numbers, as things stand at first and as they stand later. */
+    private static void neverThrows() throws Exception {
+        check.part("any numbers");
+        BannisterCabinet[] cabinets = {new BannisterCabinet(), Check.busy(), Check.palace("s3;m0,0,0;")};
+        int answered = 0;
+        int asked = 0;
+        for (Method method : BannisterCabinet.class.getDeclaredMethods()) {
+            if (!Modifier.isPublic(method.getModifiers())) {
+                continue;
+            }
+            int ways = (int) Math.pow(ANY.length, method.getParameterCount());
+            for (int way = 0; way < ways; way++) {
+                asked++;
+                for (BannisterCabinet cabinet : cabinets) {
+                    method.invoke(cabinet, numbers(way, method.getParameterCount()));
+                }
+                answered++;
+            }
+        }
+        check.due("calls that came back", answered, asked);
+    }
+
+    /** One way to put some of any numbers behind one another. */
+    private static Object[] numbers(int way, int many) {
+        Object[] numbers = new Object[many];
+        int left = way;
+        for (int i = 0; i < many; i++) {
+            numbers[i] = ANY[left % ANY.length];
+            left /= ANY.length;
+        }
+        return numbers;
     }
 
     private static void source(String source) {
